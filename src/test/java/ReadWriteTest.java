@@ -167,6 +167,7 @@ public final class ReadWriteTest {
         Bench.due("cleared", x.read(Bench.ERROR), 0);
         x.write(Bench.ERROR, 1);
         Bench.due("cleared twice", x.read(Bench.ERROR), 0);
+        Bench.due("ADDRESS is another one", x.read(Bench.ADDRESS), 0);
         x.write(Bench.COMMAND, 0x101);
         Bench.due("it works again", x.register(1), 8);
         for (int c = 5; c < 8; c++) {
@@ -229,6 +230,10 @@ public final class ReadWriteTest {
         Bench.due("ERROR 3 stays", x.read(Bench.ERROR), 3);
         Bench.due("register(1)", x.register(1), 0);
         x = halted(Bench.op(1, 1, 0, 1));
+        for (int c = 0; c < 4; c++) {
+            x.write(Bench.COMMAND, c << 8);
+            Bench.due("not by command " + c, x.register(1), 0);
+        }
         x.write(Bench.CONTROL, Bench.RESUME);
         x.write(Bench.COMMAND, 0x400);
         Bench.due("not while it runs", x.register(1), 0);

@@ -74,6 +74,9 @@ public final class RunTest {
         x.run(1);
         Bench.due("3: 0 - 65534, n doesn't count", x.register(7), 2);
         Bench.due("b stays", x.register(0), 65534);
+        Bench.load(x, 8, Bench.op(1, 3, 7, 40));
+        x.run(1);
+        Bench.due("1: b doesn't count", x.register(3), 40);
     }
 
     private static void memoryOperations() {
@@ -113,7 +116,7 @@ public final class RunTest {
         Bench.due("7, register 1 being 2", x.pc(), 12);
         x.run(1);
         Bench.due("7 looks at a, not b", x.pc(), 31);
-        Bench.load(x, 31, Bench.op(6, 0, 0, 31));
+        Bench.load(x, 31, Bench.op(6, 1, 1, 31));
         Bench.due("a jump to itself", x.run(50), 50);
         Bench.due("pc()", x.pc(), 31);
     }
