@@ -17,17 +17,28 @@ final class Bench {
     static final int STEP_ONCE = 6;
     static final int BREAK = 10 << 12;
 
+    /** Modes that lead from RESET to each state. */
+    static final String[] WAY = {
+        "1", "0", "01", "010", "0100", "0101", "01010", "010101",
+        "01011", "011", "0110", "01100", "01101", "011010", "0110101", "011011"};
+
     private static int answers = 0;
     private static int wrong = 0;
+    private static String sentence = "";
 
     private Bench() {
+    }
+
+    /** The words of the document that the answers from here on are about. */
+    static void about(String words) {
+        sentence = "\"" + words + "\": ";
     }
 
     static void due(String what, long got, long want) {
         answers++;
         if (got != want) {
             wrong++;
-            System.out.println(what + " answered " + got + ", due is " + want);
+            System.out.println(sentence + what + " answered " + got + ", due is " + want);
         }
     }
 
@@ -118,6 +129,24 @@ final class Bench {
 
     static int access(int operation, int value, int number) {
         return operation | value << 2 | number << 18;
+    }
+
+    /** An object in IDLE with BUSY, INSTRUCTION 3, a read of DATA (value) having been begun. */
+    static ProbeBench busy(int value) {
+        ProbeBench x = selecting(3);
+        x.write(DATA, value);
+        modes(x, "100");
+        shift(x, 22, access(1, 0, DATA));
+        modes(x, "11");
+        modes(x, "0110");
+        return x;
+    }
+
+    /** A new object, halted because it was asked to, with the PC at 0. */
+    static ProbeBench halted() {
+        ProbeBench x = new ProbeBench();
+        x.write(CONTROL, HALT);
+        return x;
     }
 
     /** A new object in IDLE with this INSTRUCTION. */

