@@ -55,6 +55,12 @@ final class Bench {
         }
     }
 
+    static void endIfWrong() {
+        if (wrong != 0) {
+            end();
+        }
+    }
+
     static int op(int operation, int a, int b, int n) {
         return operation << 12 | a << 9 | b << 6 | n;
     }

@@ -272,7 +272,7 @@ public final class ReadWriteEdgesTest {
         Bench.due("halted", x.read(Bench.DATA), 0);
     }
 
-    /** Halted at PC 3, with DATA 21, register r being 60 + r, a PROGRAM, and this ERROR. */
+    /** Halted at PC 3, DATA 21, ADDRESS 41, register r 60 + r, with a PROGRAM and this ERROR. */
     private static ProbeBench withError(int error) {
         ProbeBench x = Bench.halted();
         for (int r = 0; r < 8; r++) {
@@ -291,12 +291,15 @@ public final class ReadWriteEdgesTest {
         }
         x.write(Bench.PROGRAM, Bench.op(1, 1, 0, 1));
         x.write(Bench.DATA, 21);
+        x.write(Bench.ADDRESS, 41);
         return x;
     }
 
     private static void asItWas(String what, ProbeBench x, int error) {
         Bench.due(what + ", ERROR", x.read(Bench.ERROR), error);
         Bench.due(what + ", DATA", x.read(Bench.DATA), 21);
+        Bench.due(what + ", ADDRESS", x.read(Bench.ADDRESS), 41);
+        Bench.due(what + ", STEPPING", x.read(Bench.CONTROL), 0);
         Bench.due(what + ", PC", x.pc(), 3);
         for (int r = 0; r < 8; r++) {
             Bench.due(what + ", register(" + r + ")", x.register(r), 60 + r);

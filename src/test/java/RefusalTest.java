@@ -5,6 +5,12 @@ public final class RefusalTest {
     private static final String NOTHING = "A call that is refused changes nothing.";
 
     public static void main(String[] args) {
+        refusedTicks(-1, 0, 25, 26);
+        refusedRuns(-1, 0, 51, 52);
+        // A program that lets these pass would take the far ones for very long loops.
+        Bench.endIfWrong();
+        refusedTicks(LEAST, -24, 32, 33, 256 + 1, 65536 + 1, MOST);
+        refusedRuns(LEAST, -50, 64, 100, 256 + 1, 65536 + 1, MOST);
         ticks();
         runs();
         reads();
@@ -15,8 +21,8 @@ public final class RefusalTest {
         Bench.end();
     }
 
-    private static void ticks() {
-        for (int n : new int[] {LEAST, -24, -1, 0, 25, 26, 32, 33, 256 + 1, 65536 + 1, MOST}) {
+    private static void refusedTicks(int... numbers) {
+        for (int n : numbers) {
             Bench.about("-1, refused, if n is not 1 .. 24.");
             for (Twins.Past past : Twins.Past.values()) {
                 Bench.due(past + ", tick of " + n, Twins.object(past).tick(n, -1, -1), -1);
@@ -27,6 +33,9 @@ public final class RefusalTest {
                 Twins.changeNothing("tick of " + n, x -> x.tick(n, each, each));
             }
         }
+    }
+
+    private static void ticks() {
         Bench.about("-1, refused, if n is not 1 .. 24.");
         for (Twins.Past past : Twins.Past.values()) {
             for (int n : new int[] {1, 2, 23, 24}) {
@@ -37,8 +46,8 @@ public final class RefusalTest {
         }
     }
 
-    private static void runs() {
-        for (int n : new int[] {LEAST, -50, -1, 0, 51, 52, 64, 100, 256 + 1, 65536 + 1, MOST}) {
+    private static void refusedRuns(int... numbers) {
+        for (int n : numbers) {
             Bench.about("-1, refused, if n is not 1 .. 50.");
             for (Twins.Past past : Twins.Past.values()) {
                 Bench.due(past + ", run(" + n + ")", Twins.object(past).run(n), -1);
@@ -46,6 +55,9 @@ public final class RefusalTest {
             Bench.about(NOTHING);
             Twins.changeNothing("run(" + n + ")", x -> x.run(n));
         }
+    }
+
+    private static void runs() {
         Bench.about("-1, refused, if n is not 1 .. 50.");
         for (int n : new int[] {1, 2, 49, 50}) {
             Bench.due("run(" + n + ")", new ProbeBench().run(n), n);

@@ -21,6 +21,7 @@ public final class RunEdgesTest {
         breaks();
         instructionTraps();
         storeTraps();
+        storeTrapsByEachRegister();
         storesAlone();
         kindsAreApart();
         bothTraps();
@@ -112,21 +113,58 @@ public final class RunEdgesTest {
         Bench.about("a = w >> 9 & 7, b = w >> 6 & 7, n = w & 63");
         for (int a = 0; a < 8; a++) {
             for (int b = 0; b < 8; b++) {
-                ProbeBench x = Bench.halted();
-                for (int r = 0; r < 8; r++) {
-                    Bench.setRegister(x, r, 100 << r);
+                for (int operation = 0; operation < 16; operation++) {
+                    if (operation != 10) {
+                        registersByParts(operation, a, b);
+                    }
                 }
-                Bench.load(x, 0, Bench.op(2, a, b, 63), Bench.op(1, a, 7 - b, 63));
-                x.write(Bench.CONTROL, Bench.RESUME);
-                x.run(1);
-                for (int r = 0; r < 8; r++) {
-                    Bench.due("register " + r + " behind a = " + a + ", b = " + b, x.register(r),
-                        r == a ? (100 << a) + (100 << b) : 100 << r);
-                }
-                x.run(1);
-                Bench.due("register a becomes n", x.register(a), 63);
             }
         }
+    }
+
+    /** Register r is 17 * r + 3; the word at i is 0xB000 + i, which is a step that does nothing. */
+    private static void registersByParts(int operation, int a, int b) {
+        int[] value = new int[8];
+        ProbeBench x = Bench.halted();
+        for (int r = 0; r < 8; r++) {
+            value[r] = 17 * r + 3;
+            Bench.setRegister(x, r, value[r]);
+        }
+        for (int i = 0; i < 64; i++) {
+            x.write(Bench.MEMORY, 0xB000 + i);
+        }
+        Bench.load(x, 63, Bench.op(operation, a, b, 42));
+        Bench.setPc(x, 63);
+        x.write(Bench.CONTROL, Bench.RESUME);
+        x.run(1);
+        String what = "operation " + operation + ", a = " + a + ", b = " + b + ", ";
+        int place = value[b] + 42 & 63;
+        for (int r = 0; r < 8; r++) {
+            Bench.due(what + "register " + r, x.register(r),
+                r == a ? valueOfA(operation, value[a], value[b]) : value[r]);
+        }
+        Bench.due(what + "the word", x.word(place), operation == 5 ? value[a] : 0xB000 + place);
+        Bench.due(what + "the PC", x.pc(), pcBehind(operation, value[a], value[b]));
+    }
+
+    private static int valueOfA(int operation, int a, int b) {
+        return switch (operation) {
+            case 1 -> 42;
+            case 2 -> a + b;
+            case 3 -> a - b & 65535;
+            case 4 -> 0xB000 + (b + 42 & 63);
+            case 9 -> 0;
+            default -> a;
+        };
+    }
+
+    private static int pcBehind(int operation, int a, int b) {
+        return switch (operation) {
+            case 6 -> 42;
+            case 8 -> a < b ? 42 : 0;
+            case 9 -> b & 63;
+            default -> 0;
+        };
     }
 
     private static void setsN() {
@@ -225,10 +263,12 @@ public final class RunEdgesTest {
     private static void goesIfZero() {
         Bench.about("7 if a is 0, the PC becomes n.");
         for (int value : new int[] {0, 1, 64, 256, 32768, 65535}) {
-            for (int n : ENDS_OF_MEMORY) {
-                ProbeBench x = before(20, Bench.op(7, 1, 2, n), 1, value, 2, value == 0 ? 1 : 0);
-                x.run(1);
-                Bench.due("a being " + value, x.pc(), value == 0 ? n : 21);
+            for (int b : new int[] {0, 1, 65535}) {
+                for (int n : ENDS_OF_MEMORY) {
+                    ProbeBench x = before(20, Bench.op(7, 1, 2, n), 1, value, 2, b);
+                    x.run(1);
+                    Bench.due("a being " + value, x.pc(), value == 0 ? n : 21);
+                }
             }
         }
     }
@@ -337,7 +377,7 @@ public final class RunEdgesTest {
                 for (int beside = -1; beside <= 1; beside++) {
                     int place = at + beside & 63;
                     // By way of (b + n) mod 64.
-                    ProbeBench x = before(30, Bench.op(5, 1, 2, 63), 1, 77, 2, place + 65);
+                    ProbeBench x = before(30, Bench.op(5, 1, 7, 63), 1, 77, 7, place + 65);
                     x.write(t, Bench.trap(2, at));
                     Bench.due("a store at " + place + ", the trap being at " + at,
                         x.run(1), beside == 0 ? 0 : 1);
@@ -346,6 +386,23 @@ public final class RunEdgesTest {
                         ? Bench.status(true, 2, 30) : Bench.status(false, 3, 31));
                     Bench.due("steps()", x.steps(), beside == 0 ? 0 : 1);
                 }
+            }
+        }
+    }
+
+    private static void storeTrapsByEachRegister() {
+        Bench.about("operation 5 would store at the address of one of kind 2, is not done");
+        for (int b = 0; b < 8; b++) {
+            for (int wrong = 0; wrong < 8; wrong++) {
+                ProbeBench x = Bench.halted();
+                for (int r = 0; r < 8; r++) {
+                    Bench.setRegister(x, r, 40 + r);
+                }
+                Bench.load(x, 0, Bench.op(5, 0, b, 10));
+                x.write(Bench.TRAP_0, Bench.trap(2, 50 + wrong));
+                x.write(Bench.CONTROL, Bench.RESUME);
+                Bench.due("b = " + b + ", the trap being for " + wrong,
+                    x.run(1), b == wrong ? 0 : 1);
             }
         }
     }
