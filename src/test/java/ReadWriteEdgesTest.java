@@ -8,6 +8,7 @@ public final class ReadWriteEdgesTest {
         controlOtherBits();
         steppingIsReadBack();
         nextStepPassesTheTrap();
+        trapThatIsSetBehindResuming();
         nextStepAlone();
         stepThatIsDone();
         stepThatIsNotDone();
@@ -26,6 +27,7 @@ public final class ReadWriteEdgesTest {
         programEnd();
         programJump();
         programBreak();
+        programLeavesTheCause();
         programWrapsAround();
         programTraps();
         addressMod64();
@@ -166,14 +168,32 @@ public final class ReadWriteEdgesTest {
         }
         ProbeBench x = Bench.halted();
         x.write(Bench.CONTROL, Bench.RESUME);
-        x.write(Bench.TRAP_0, Bench.trap(1, 0));
-        Bench.due("a trap that is set behind resuming", x.run(1), 1);
-        x = Bench.halted();
-        x.write(Bench.CONTROL, Bench.RESUME);
         x.write(Bench.CONTROL, Bench.HALT);
         x.write(Bench.TRAP_0, Bench.trap(1, 0));
         x.write(Bench.CONTROL, Bench.RESUME);
         Bench.due("resumed, halted and resumed", x.run(1), 1);
+    }
+
+    private static void trapThatIsSetBehindResuming() {
+        Bench.about("for its next step a trap of kind 1 does not count");
+        for (int t = Bench.TRAP_0; t <= Bench.TRAP_1; t++) {
+            for (int at : new int[] {0, 1, 63}) {
+                ProbeBench x = Bench.halted();
+                Bench.setPc(x, at);
+                x.write(Bench.CONTROL, Bench.RESUME);
+                x.write(t, Bench.trap(1, at));
+                Bench.due("from outside, the step at " + at, x.run(1), 1);
+                x = Bench.halted();
+                Bench.setPc(x, at);
+                Bench.scanInstruction(x, 3);
+                Bench.scanData(x, 22, Bench.access(2, Bench.RESUME, Bench.CONTROL));
+                Bench.scanData(x, 22, Bench.access(2, Bench.trap(1, at), t));
+                Bench.due("through the pins, the step at " + at, x.run(1), 1);
+                x.run(50);
+                Bench.due("it counts when it comes round", x.run(50), 13);
+                Bench.due("STATUS", x.read(Bench.STATUS), Bench.status(true, 2, at));
+            }
+        }
     }
 
     private static void nextStepAlone() {
@@ -514,6 +534,40 @@ public final class ReadWriteEdgesTest {
         ProbeBench x = withProgram(setEach());
         x.write(Bench.COMMAND, 0x400);
         doneUpTo(x, 4);
+    }
+
+    /** Halted with this cause; the PC is 1. */
+    private static ProbeBench haltedBy(int cause) {
+        ProbeBench x = Bench.with(0, cause == 1 ? Bench.BREAK : 0);
+        x.write(Bench.TRAP_0, cause == 2 ? Bench.trap(1, 1) : 0);
+        if (cause == 4) {
+            x.write(Bench.CONTROL, Bench.HALT);
+            x.write(Bench.CONTROL, Bench.STEP_ONCE);
+        } else if (cause == 3) {
+            x.run(1);
+            x.write(Bench.CONTROL, Bench.HALT);
+        } else {
+            x.run(2);
+        }
+        Bench.due("STATUS", x.read(Bench.STATUS), Bench.status(true, cause, 1));
+        return x;
+    }
+
+    private static void programLeavesTheCause() {
+        Bench.about("without the PC (...), up to a BREAK or the end; traps don't count");
+        int[] ends = {Bench.BREAK, Bench.op(6, 0, 0, 9), 0, Bench.op(5, 0, 0, 1)};
+        for (int cause = 1; cause <= 4; cause++) {
+            for (int end : ends) {
+                for (int at = 0; at < 4; at++) {
+                    ProbeBench x = haltedBy(cause);
+                    x.write(Bench.TRAP_1, Bench.trap(2, 1));
+                    x.write(Bench.PROGRAM + at, end);
+                    x.write(Bench.COMMAND, 0x400);
+                    Bench.due("behind " + end, x.read(Bench.STATUS),
+                        Bench.status(true, cause, 1));
+                }
+            }
+        }
     }
 
     private static int[] setEach() {

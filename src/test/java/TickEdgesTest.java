@@ -16,6 +16,7 @@ public final class TickEdgesTest {
         outputElsewhere();
         fiveTicksToReset();
         reset();
+        resetDoesNothingElse();
         captureI();
         updateI();
         captureDByInstruction();
@@ -26,6 +27,7 @@ public final class TickEdgesTest {
         busyEndsOnlyWith2();
         noOperationBegunBefore();
         fewerThanFourTicks();
+        fourTicksAreEnough();
         theLastBegunCounts();
         busyIsNoOperation();
         ifBusyNothing();
@@ -169,6 +171,32 @@ public final class TickEdgesTest {
             Bench.modes(x, "1001010");
             Bench.modes(x, "110");
             Bench.due("no other state does, round the D branch", x.instruction(), i);
+        }
+    }
+
+    private static void resetDoesNothingElse() {
+        Bench.about("RESET: INSTRUCTION becomes 1.");
+        for (int ticks : new int[] {3, 4, 24}) {
+            ProbeBench x = Bench.busy(0xACE1);
+            x.tick(ticks, -1, -1);
+            Bench.modes(x, "0");
+            Bench.scanInstruction(x, 3);
+            Bench.due("BUSY, VALUE and number stay", Bench.scanData(x, 22, 0),
+                Bench.access(3, 0xACE1, Bench.DATA));
+            x = Bench.selecting(3);
+            Bench.scanData(x, 22, Bench.access(1, 0, Bench.IDENTITY));
+            x.tick(ticks, -1, -1);
+            Bench.modes(x, "0");
+            Bench.scanInstruction(x, 3);
+            Bench.due("VALUE and number stay", Bench.scanData(x, 22, 0),
+                Bench.access(0, 23130, Bench.IDENTITY));
+        }
+        for (Twins.Past past : new Twins.Past[] {Twins.Past.NEW, Twins.Past.RUNNING_AT_63,
+                Twins.Past.HALTED_WITH_ERROR, Twins.Past.AT_A_TRAP, Twins.Past.JUST_RESUMED}) {
+            Twins.same("to IDLE and back to RESET", past, Twins.Future.values(), x -> {
+                x.tick(1, 0, 1);
+                x.tick(24, -1, -1);
+            }, y -> { });
         }
     }
 
@@ -369,6 +397,22 @@ public final class TickEdgesTest {
         x.state();
         x.tick(1, 0, 0);
         Bench.due("other calls are no ticks", Bench.scanData(x, 22, 0) & 3, 3);
+    }
+
+    /** By one tick in SHIFT-D the captured row becomes an operation that can be seen. */
+    private static void fourTicksAreEnough() {
+        Bench.about("else the row's bits 0, 1 are the operation");
+        for (int address = 0; address < 64; address++) {
+            ProbeBench x = Bench.selecting(3);
+            x.write(Bench.DATA, 2 * address + 1);
+            toUpdateD(x, Bench.access(1, 0, Bench.DATA));
+            // UPDATE-D, SELECT-D, CAPTURE-D, SHIFT-D with IN 1, EXIT1-D, UPDATE-D: half of
+            // VALUE is written into register 8 + DATA / 2, which is ADDRESS.
+            x.tick(6, 0b011001, 0b001000);
+            Bench.due("the write that the row is", x.read(Bench.ADDRESS), address);
+            Bench.due("RESULT, VALUE and its number", Bench.scanData(x, 22, 0),
+                Bench.access(0, 2 * address + 1, Bench.ADDRESS));
+        }
     }
 
     private static void theLastBegunCounts() {
